@@ -1,6 +1,7 @@
 /**
  * A river of lanes with drifting floes, and somebody who walks along its south bank, leaps from
- * floe to floe and comes to the north bank. DOC.md names the promises; its words are used here.
+ * floe to floe and comes to the north bank. Each public method is the promise of its name in
+ * DOC.md, and the names in here are the words that DOC.md explains.
  */
 public final class FloeToFloe {
     private static final int NOBODY = -1;
@@ -45,6 +46,7 @@ public final class FloeToFloe {
     private static final int WALKS_GREATER = 11;
     private static final int LEAPS_SOUTH = 12;
 
+    // All rows are made here and used again: the calls of a run share one room, so none makes an object.
     private final River now = new River();
     private final River trial = new River();
     private final River pictured = new River();
@@ -55,11 +57,9 @@ public final class FloeToFloe {
     private int inRow;
     private boolean isPictured;
 
-    /** Three lanes, no floes. */
     public FloeToFloe() {
     }
 
-    /** A letter more is told: how many there are. */
     public int letter(int c) {
         int fault = outOf(c, 0, MOST_CODE);
         if (fault == 0 && telling.size == MOST_LETTERS) {
@@ -68,7 +68,6 @@ public final class FloeToFloe {
         return fault != 0 ? refuse(fault) : telling.put(c);
     }
 
-    /** The letters become a river: how many statements, or the fault. */
     public int river() {
         trial.become(now);
         int answer = telling.tellTo(trial);
@@ -79,7 +78,6 @@ public final class FloeToFloe {
         return answer;
     }
 
-    /** What was told of a floe. */
     public int floe(int floe, int what) {
         if (!now.has(floe)) {
             return refuse(NOBODY);
@@ -90,19 +88,16 @@ public final class FloeToFloe {
         return now.toldOf(floe, what);
     }
 
-    /** The cell where a floe is in a minute. */
     public int is(int floe, int minute) {
         int fault = faultOfLook(floe, minute);
         return fault != 0 ? refuse(fault) : now.spotOf(floe, minute);
     }
 
-    /** What a floe bears in a minute. */
     public int bears(int floe, int minute) {
         int fault = faultOfLook(floe, minute);
         return fault != 0 ? refuse(fault) : now.strengthOf(floe, minute);
     }
 
-    /** So many minutes go by: the minute then. */
     public int pass(int n) {
         int fault = outOf(n, 1, MOST_MINUTE);
         if (fault == 0 && now.minute + n > MOST_MINUTE) {
@@ -115,7 +110,6 @@ public final class FloeToFloe {
         return now.minute;
     }
 
-    /** The floes to which one can leap from a floe now. */
     public int next(int floe) {
         if (!now.has(floe)) {
             return refuse(NOBODY);
@@ -125,7 +119,6 @@ public final class FloeToFloe {
         return walk.floesBeside(floe);
     }
 
-    /** How many floes share their lane and cell with another one in a minute. */
     public int crowd(int minute) {
         int fault = outOf(minute, 0, MOST_LOOKED_AT);
         if (fault != 0) {
@@ -140,7 +133,6 @@ public final class FloeToFloe {
         return many;
     }
 
-    /** In how many minutes somebody can be on the north bank. */
     public int soonest(int load, int cell) {
         int fault = faultOfWalker(load, cell);
         if (fault != 0) {
@@ -150,7 +142,6 @@ public final class FloeToFloe {
         return walk.minutesOver(cell, now.minute);
     }
 
-    /** By how many leaps, at the fewest, somebody comes to the north bank. */
     public int leaps(int load, int cell) {
         int fault = faultOfWalker(load, cell);
         if (fault != 0) {
@@ -160,7 +151,6 @@ public final class FloeToFloe {
         return walk.fewestLeaps(cell);
     }
 
-    /** The places where somebody can be behind n minutes. */
     public int reach(int load, int cell, int n) {
         if (!isCell(cell)) {
             return refuse(NOBODY);
@@ -175,7 +165,6 @@ public final class FloeToFloe {
         return (places & SOUTH) != 0 ? banksAndFloes | REACHED_SOUTH : banksAndFloes;
     }
 
-    /** The most minutes that somebody can stay on a cell first and still come over. */
     public int await(int load, int cell) {
         int fault = faultOfWalker(load, cell);
         if (fault != 0) {
@@ -191,7 +180,6 @@ public final class FloeToFloe {
         return NONE;
     }
 
-    /** The greatest load that comes over. */
     public int heaviest(int cell) {
         if (!isCell(cell)) {
             return refuse(NOBODY);
@@ -204,7 +192,6 @@ public final class FloeToFloe {
         return 0;
     }
 
-    /** The floes without each of which alone somebody does not come over. */
     public int needed(int load, int cell) {
         int fault = faultOfWalker(load, cell);
         if (fault != 0) {
@@ -222,7 +209,6 @@ public final class FloeToFloe {
         return floes;
     }
 
-    /** The fewest floes that, held where they are now, let somebody come over. */
     public int poles(int load, int cell) {
         int fault = faultOfWalker(load, cell);
         if (fault != 0) {
@@ -238,7 +224,6 @@ public final class FloeToFloe {
         return NONE;
     }
 
-    /** The cells of the south bank from which one comes over. */
     public int from(int load) {
         int fault = outOf(load, 1, MOST_LOAD);
         if (fault != 0) {
@@ -253,7 +238,6 @@ public final class FloeToFloe {
         return cells;
     }
 
-    /** The floes where one can be now who was on a floe n minutes ago. */
     public int byNow(int load, int floe, int n) {
         if (!now.has(floe)) {
             return refuse(NOBODY);
@@ -266,7 +250,6 @@ public final class FloeToFloe {
         return walk.placesBehind(1 << floe, now.minute - n, n) & ALL_FLOES;
     }
 
-    /** A number more of the row: how many there are. */
     public int row(int v) {
         int fault = outOf(v, 0, LEAPS_SOUTH);
         if (fault == 0 && inRow >= seen.length) {
@@ -280,7 +263,6 @@ public final class FloeToFloe {
         return inRow;
     }
 
-    /** How many kinds and paces fit the row, or the first that does. */
     public int fitting(int what) {
         if (what < 0 || what > 1) {
             return refuse(OTHER);
@@ -298,7 +280,6 @@ public final class FloeToFloe {
         return what == 0 ? many : first;
     }
 
-    /** The first of the row that somebody may not do. */
     public int judge(int load, int cell) {
         int fault = faultOfWalker(load, cell);
         if (fault != 0) {
@@ -309,7 +290,6 @@ public final class FloeToFloe {
         return walk.done < inRow ? walk.done : NONE;
     }
 
-    /** Where somebody is behind all of the row that he may do. */
     public int ends(int load, int cell) {
         int fault = faultOfWalker(load, cell);
         if (fault != 0) {
@@ -319,14 +299,12 @@ public final class FloeToFloe {
         return placeOf(walk.follow(seen, inRow, southCell(cell)));
     }
 
-    /** The row has none then: how many it had. */
     public int clear() {
         int had = inRow;
         inRow = 0;
         return had;
     }
 
-    /** How many of n drawn cells and loads come over. */
     public int seeds(int n, int z) {
         int fault = outOf(n, 1, MOST_SEEDS);
         if (fault != 0) {
@@ -346,14 +324,12 @@ public final class FloeToFloe {
         return many;
     }
 
-    /** The image is taken: the minute. */
     public int image() {
         pictured.become(now);
         isPictured = true;
         return now.minute;
     }
 
-    /** All is as it was when the image was taken: the minute. */
     public int on() {
         if (!isPictured) {
             return refuse(STATE);
@@ -362,7 +338,6 @@ public final class FloeToFloe {
         return now.minute;
     }
 
-    /** How many there are of what is asked for. */
     public int count(int what) {
         int number = what - 10;
         if (number >= 1 && number < refusals.length) {

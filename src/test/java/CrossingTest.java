@@ -16,6 +16,8 @@ public final class CrossingTest {
         poles();
         from();
         byNow();
+        driftingOn();
+        afterAnotherRiver();
         refusals();
         Due.end();
     }
@@ -92,6 +94,8 @@ public final class CrossingTest {
         x = Due.river(ONE_MELTING);
         Due.is("over in time", x.leaps(5, 3), 2);
         Due.is("too late", x.leaps(5, 4), -9);
+        Due.is("each minute a leap", Due.river("r3;fm00r01;fm10r01;fm20r01;").leaps(1, 0), 4);
+        Due.is("one lane more: too late", Due.river("r4;fm00r01;fm10r01;fm20r01;fm30r01;").leaps(1, 0), -9);
     }
 
     private static void reach() {
@@ -153,6 +157,7 @@ public final class CrossingTest {
         Due.is("grinding", Due.river(ONE_GRINDING).heaviest(0), 2);
         Due.is("held", Due.river(ONE_HELD).heaviest(5), 9);
         Due.is("the weaker of two", Due.river("r2;fh00r06;fh10r04;").heaviest(5), 4);
+        Due.is("1 is the least load", Due.river("r1;fh00r01;").heaviest(0), 1);
         Due.is("nobody", new FloeToFloe().heaviest(0), 0);
         x = Due.river("r1;fs00r09;");
         Due.is("9 is the greatest load", x.heaviest(0), 9);
@@ -242,6 +247,38 @@ public final class CrossingTest {
         x = Due.river("r2;ff00r19;ff15r19;fh03r09;m60;");
         Due.is("sixty minutes", x.byNow(9, 1, 60), 7);
         Due.is("three minutes", x.byNow(9, 1, 3), 2 + 4);
+    }
+
+    /** Floes 0 and 1 stay five cells apart, unless one of them is held; nobody holds one but in poles. */
+    private static void driftingOn() {
+        String apart = "r2;ff00r19;ff15r19;";
+        FloeToFloe x = Due.river(apart);
+        Due.is("apart: poles", x.poles(9, 0), 1);
+        Due.is("apart: soonest", x.soonest(9, 0), -9);
+        Due.is("apart: leaps", x.leaps(9, 0), -9);
+        Due.is("apart: reach", x.reach(9, 0, 40), 512 + 1);
+        Due.is("apart: await", x.await(9, 0), -9);
+        Due.is("apart: heaviest", x.heaviest(0), 0);
+        Due.is("apart: needed", x.needed(9, 0), 0);
+        Due.is("apart: from", x.from(9), 0);
+        Due.is("apart: seeds", x.seeds(20, 1), 0);
+        x.pass(20);
+        Due.is("apart: byNow", x.byNow(9, 0, 20), 1);
+        Due.is("apart: needed, with a floe that helps", Due.river(apart + "fh10r09;").needed(9, 0), 1 + 4);
+    }
+
+    /** What a call has worked out for one river must not be left for another one. */
+    private static void afterAnotherRiver() {
+        FloeToFloe x = Due.river("r1;");
+        x.image();
+        Due.tell(x, "fh00r09;");
+        Due.is("held: leaps", x.leaps(5, 0), 2);
+        x.on();
+        Due.tell(x, "fm03r15;");
+        Due.is("it drifts off and melts: leaps", x.leaps(5, 0), -9);
+        Due.is("it drifts off and melts: soonest", x.soonest(5, 0), -9);
+        Due.is("all floes held, which is one", x.poles(5, 0), 1);
+        Due.is("from cell 3", x.leaps(5, 3), 2);
     }
 
     private static void refusals() {

@@ -25,8 +25,13 @@ public final class LastTest {
         Due.is("seed -1: cell 1 load 3, 6 with 1, 8 with 6, 0 with 5", x.seeds(4, -1), 3);
         Due.is("its third", x.seeds(3, -1), 2);
         Due.is("load 4 in time from 3, load 3 from 4", x.seeds(4, 0), 2);
+        // Reckoned from the draws: load L comes in time if its way to the floe is at most 22 - 4 L minutes.
+        Due.is("twenty with seed -1", x.seeds(20, -1), 9);
+        Due.is("twenty with seed 2026", x.seeds(20, 2026), 14);
         x.pass(3);
         Due.is("minute 3: load 5 is too late", x.seeds(4, -1), 2);
+        Due.is("minute 3: twenty with seed 12345", x.seeds(20, 12345), 9);
+        Due.is("minute 3: twenty with seed 99", x.seeds(20, 99), 10);
         Due.is("n 0", x.seeds(0, 1), -4);
         Due.is("n 21", x.seeds(21, 1), -6);
         Due.is("n 20 and the greatest seed", Due.river("r1;fh00r09;").seeds(20, Integer.MAX_VALUE), 20);

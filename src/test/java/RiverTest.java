@@ -160,6 +160,7 @@ public final class RiverTest {
         fault("ff10r01;r2;", 2);
         fault("r5;ff40r01;r4;", -2011);
         fault("ff20r01;ff00r01;r2;", -2016);
+        fault("ff00r01;ff20r01;r2;", -2016);
         fault("m5;m61;r0;", -2003);
         fault("r0;m61;", -2000);
         fault("r9;x", -1003);
