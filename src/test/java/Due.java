@@ -1,7 +1,20 @@
+import java.lang.reflect.InvocationTargetException;
+import java.lang.reflect.Method;
+import java.util.Arrays;
+import java.util.HashMap;
+import java.util.Map;
+
 /** Counts the answers that are not the ones that are due, and ends a test with exit code 1 if there was one. */
 final class Due {
+    private static final Map<String, Method> METHODS = new HashMap<>();
     private static int wrong = 0;
     private static int asked = 0;
+
+    static {
+        for (Method method : FloeToFloe.class.getDeclaredMethods()) {
+            METHODS.put(method.getName(), method);
+        }
+    }
 
     private Due() {
     }
@@ -38,6 +51,20 @@ final class Due {
         x.clear();
         for (int number : numbers) {
             x.row(number);
+        }
+    }
+
+    static int parametersOf(String name) {
+        return METHODS.get(name).getParameterCount();
+    }
+
+    /** Calls a method of the face by its name. */
+    static int call(FloeToFloe x, String name, int... given) {
+        Object[] boxed = Arrays.stream(given).boxed().toArray();
+        try {
+            return (int) METHODS.get(name).invoke(x, boxed);
+        } catch (IllegalAccessException | InvocationTargetException e) {
+            throw new IllegalStateException(name + Arrays.toString(given), e);
         }
     }
 

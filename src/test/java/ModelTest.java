@@ -1,8 +1,4 @@
-import java.lang.reflect.InvocationTargetException;
-import java.lang.reflect.Method;
 import java.util.Arrays;
-import java.util.HashMap;
-import java.util.Map;
 import java.util.Random;
 
 /** Drawn runs of 512 calls: the class answers what the model answers. */
@@ -14,7 +10,8 @@ public final class ModelTest {
         "heaviest", "needed", "poles", "from", "byNow", "row", "row", "row", "fitting", "judge", "ends", "judge", "ends",
         "clear", "seeds", "image", "on", "count", "letter", "river"};
 
-    private static final Map<String, Method> METHODS = new HashMap<>();
+    private static final String[] LONG_WAYS = {"r5;ff04l25;ft17l29;ft24l24;ff34l13;ft44l15;ft04l23;ff18l22;",
+        "r5;ff00r11;ff16l24;ft20r17;ff34l15;ft44l15;ft04l23;fh19l21;", "r5;ff00r13;fh18r24;fm29l24;ft30l18;fs44r17;fs24l13;"};
 
     private final Random random;
     private final FloeToFloe x = new FloeToFloe();
@@ -27,17 +24,33 @@ public final class ModelTest {
         this.random = new Random(run);
     }
 
-    public static void main(String[] args) throws IllegalAccessException, InvocationTargetException {
-        for (Method method : FloeToFloe.class.getDeclaredMethods()) {
-            METHODS.put(method.getName(), method);
-        }
+    public static void main(String[] args) {
         for (int run = 0; run < RUNS; run++) {
             new ModelTest(run).go();
+        }
+        for (int way = 0; way < LONG_WAYS.length; way++) {
+            new ModelTest(RUNS + way).goLongWay(LONG_WAYS[way]);
         }
         Due.end();
     }
 
-    private void go() throws IllegalAccessException, InvocationTargetException {
+    /** Ways that take about 40 minutes, which drawn rivers hardly ever have: from each minute and cell. */
+    private void goLongWay(String text) {
+        tell(text);
+        for (int minute = 0; minute <= 20; minute++) {
+            for (int cell = 0; cell < 10; cell++) {
+                ask("soonest", 1, cell);
+                if (minute % 5 == 3) {
+                    ask("await", 1, cell);
+                    ask("leaps", 1, cell);
+                    ask("reach", 1, cell, 40);
+                }
+            }
+            ask("pass", 1);
+        }
+    }
+
+    private void go() {
         tell(riverText());
         while (calls < CALLS) {
             if (random.nextInt(60) == 0) {
@@ -72,7 +85,7 @@ public final class ModelTest {
         return random.nextBoolean() ? spoilt.toString() : spoilt.substring(0, random.nextInt(text.length()));
     }
 
-    private void tell(String text) throws IllegalAccessException, InvocationTargetException {
+    private void tell(String text) {
         for (int i = 0; i < text.length(); i++) {
             ask("letter", text.charAt(i));
         }
@@ -80,7 +93,7 @@ public final class ModelTest {
     }
 
     private int[] arguments(String name) {
-        int[] given = new int[METHODS.get(name).getParameterCount()];
+        int[] given = new int[Due.parametersOf(name)];
         for (int i = 0; i < given.length; i++) {
             given[i] = random.nextInt(60) == 0 ? ODD[random.nextInt(ODD.length)] : argument(name, i);
         }
@@ -126,10 +139,9 @@ public final class ModelTest {
         return 1 + random.nextInt(random.nextBoolean() ? 4 : 9);
     }
 
-    private void ask(String name, int... given) throws IllegalAccessException, InvocationTargetException {
-        Object[] boxed = Arrays.stream(given).boxed().toArray();
-        int got = (int) METHODS.get(name).invoke(x, boxed);
-        Due.is("run " + run + ", call " + calls + ": " + name + Arrays.toString(given), got, model.call(name, given));
+    private void ask(String name, int... given) {
+        String call = "run " + run + ", call " + calls + ": " + name + Arrays.toString(given);
+        Due.is(call, Due.call(x, name, given), model.call(name, given));
         calls++;
     }
 }
