@@ -265,6 +265,25 @@ public final class CrossingTest {
         x.pass(20);
         Due.is("apart: byNow", x.byNow(9, 0, 20), 1);
         Due.is("apart: needed, with a floe that helps", Due.river(apart + "fh10r09;").needed(9, 0), 1 + 4);
+        // Floe 0 bears load 9 up to minute 3 and is beside floe 1 in minute 0 alone; it bears load 8 when it is back in 5.
+        String once = "r2;fm00r29;fh10r09;";
+        Due.is("once: poles", Due.river(once).poles(9, 0), 1);
+        Due.is("once: soonest", Due.river(once).soonest(9, 0), -9);
+        Due.is("once: heaviest", Due.river(once).heaviest(0), 8);
+        Due.is("once: needed", Due.river(once).needed(9, 0), 0);
+        Due.is("once: from", Due.river(once).from(9), 0);
+        Due.is("once: needed, with a floe that helps", Due.river(once + "fh00r09;").needed(9, 0), 2 + 4);
+        Due.is("once: needed of load 8", Due.river(once).needed(8, 0), 1 + 2);
+        int withNine = 0;
+        for (int seed = 0; seed < 20; seed++) {
+            // A first draw of load 9 does not come over, whatever the cell.
+            int z = (seed * 1664525 + 1013904223) * 1664525 + 1013904223;
+            if ((z & 0x7FFFFFFF) / 256 % 9 == 8) {
+                Due.is("once: seeds(1, " + seed + ")", Due.river(once).seeds(1, seed), 0);
+                withNine++;
+            }
+        }
+        Due.isTrue("a seed that draws load 9", withNine > 0);
     }
 
     /** What a call has worked out for one river must not be left for another one. */

@@ -7,6 +7,7 @@ public final class SeenTest {
         judgeWalking();
         judgeLeaping();
         judgeBearing();
+        eachOfItsOwnLoad();
         judgeBehindTheNorthBank();
         twelveActs();
         refusals();
@@ -135,6 +136,23 @@ public final class SeenTest {
         follows(x, 3, 0, 0, 10, 0);
         follows(x, 2, 0, -9, 0, 0, 9, 9, 9);
         follows(x, 2, 0, 4, 0, 0, 9, 9, 9, 9);
+    }
+
+    /** Each call has its own load and cell, whatever the one before it had. */
+    private static void eachOfItsOwnLoad() {
+        FloeToFloe x = Due.river("r1;fh00r05;");
+        Due.row(x, 0, 8);
+        for (int round = 0; round < 2; round++) {
+            Due.is("load 6 ends on the bank", x.ends(6, 0), 10);
+            Due.is("load 5 ends over there", x.ends(5, 0), 8);
+            Due.is("load 5 from too far", x.ends(5, 2), 12);
+            Due.is("load 6 is judged", x.judge(6, 0), 0);
+            Due.is("load 5 is judged", x.judge(5, 0), -9);
+            Due.is("load 6 is judged again", x.judge(6, 0), 0);
+            Due.is("load 5 ends over there, behind load 6", x.ends(5, 0), 8);
+            Due.is("all poles", x.poles(6, 0), -9);
+            Due.is("load 5 is judged, behind poles", x.judge(5, 0), -9);
+        }
     }
 
     private static void judgeBehindTheNorthBank() {
