@@ -47,11 +47,12 @@ public final class FloeToFloe {
     private static final int LEAPS_SOUTH = 12;
 
     // All rows are made here and used again: the calls of a run share one room, so none makes an object.
-    private final River now = new River();
+    private final Walk walk = new Walk();
+    // Taken from the walk and not given to it: a constructor hands out nothing of the object that it makes.
+    private final River now = walk.river;
     private final River trial = new River();
     private final River pictured = new River();
     private final Telling telling = new Telling();
-    private final Walk walk = new Walk(now);
     private final int[] seen = new int[MOST_IN_ROW];
     private final int[] refusals = new int[1 - ROOM];
     private int inRow;
@@ -272,7 +273,7 @@ public final class FloeToFloe {
         for (int kind = 0; kind <= 2; kind++) {
             for (int pace = -MOST_PACE; pace <= MOST_PACE; pace++) {
                 if (fitsRow(kind, pace)) {
-                    first = many == 0 ? 10 * kind + pace + 2 : first;
+                    first = many == 0 ? 10 * kind + pace + MOST_PACE : first;
                     many++;
                 }
             }
@@ -514,7 +515,7 @@ public final class FloeToFloe {
                 case 2:
                     return cells[floe];
                 case 3:
-                    return paces[floe] + 2;
+                    return paces[floe] + MOST_PACE;
                 default:
                     return strengths[floe];
             }
@@ -697,7 +698,7 @@ public final class FloeToFloe {
 
     /** Somebody of a load on a river: from a set of places in a minute to those a minute later. */
     private static final class Walk {
-        private final River river;
+        private final River river = new River();
         private final int[] lanes = new int[MOST_FLOES];
         private final int[] spots = new int[MOST_FLOES];
         private final int[] byLeaps = new int[SPAN + 1];
@@ -706,10 +707,6 @@ public final class FloeToFloe {
         private int held;
         private int strong;
         private int done;
-
-        Walk(River river) {
-            this.river = river;
-        }
 
         /** Somebody of a load begins, without some floes and with some held where they are now. */
         void begin(int newLoad, int goneFloes, int heldFloes) {

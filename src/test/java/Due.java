@@ -54,6 +54,10 @@ final class Due {
         }
     }
 
+    static int asked() {
+        return asked;
+    }
+
     static int parametersOf(String name) {
         return METHODS.get(name).getParameterCount();
     }
